@@ -64,7 +64,6 @@ public final class PropStore {
         props = new Prop[MOST_PROPS];
         slots = new Prop[SLOTS];
         cues = new Cue[MOST_CUES];
-        missReason = DONE;
         missedCue = NONE;
     }
 
@@ -109,6 +108,7 @@ public final class PropStore {
         return numberOf(inHand);
     }
 
+    // The document gives i the range of the slots in every act, for a SHARE finds its slot by it.
     public int cue(int act, int slot, int view, int i) {
         if (act < SHOW || act > SHARE || !isSlot(slot) || !isView(view) || !isSlot(i)) {
             return BAD;
