@@ -1,8 +1,5 @@
 /** What it is to play a cue: each act, its miscues and their order. */
-public final class ActsTest {
-    private static final int NONE = -1, EMPTY = -4, CAST = -5, INDEX = -6, STORE = -7;
-    private static final int SHOW = 0, WEAR = 1, TAKE = 2, LAY = 3, SWAP = 4, SHARE = 5;
-
+public final class ActsTest implements Words {
     /** By what the parts of a row are seen, for views 8 .. 15. */
     private static final int[] PART_VIEWS = {4, 5, 6, 16, 7, 8, 10, 11};
 
@@ -25,14 +22,6 @@ public final class ActsTest {
         test.share();
         test.rowsAreSharedNotCopied();
         test.check.end();
-    }
-
-    private static PropStore oneOfEachKind() {
-        PropStore x = new PropStore();
-        for (int kind = 0; kind < 16; kind++) {
-            x.prop(kind, kind >= 4 && kind <= 7 ? kind * 10 : 2);
-        }
-        return x;
     }
 
     /** Writes one cue and plays it: 0, or the reason of the miscue. */
@@ -58,7 +47,7 @@ public final class ActsTest {
     }
 
     private void everyActTakesWhatTheSlotHoldsAsItsView() {
-        PropStore x = oneOfEachKind();
+        PropStore x = Stores.oneOfEachKind();
         x.slot(0, 8);
         check.due("SHOW a rail as 9", playOne(x, SHOW, 0, 9, 0), CAST);
         check.due("WEAR a rail as 4", playOne(x, WEAR, 0, 4, 0), CAST);
@@ -92,7 +81,7 @@ public final class ActsTest {
     }
 
     private void showGrowsPoints() {
-        PropStore x = oneOfEachKind();
+        PropStore x = Stores.oneOfEachKind();
         lay(x, 6, 10, 0);
         lay(x, 6, 10, 1);
         lay(x, 10, 14, 0);
@@ -108,7 +97,7 @@ public final class ActsTest {
     }
 
     private void wearOfPieces() {
-        PropStore x = oneOfEachKind();
+        PropStore x = Stores.oneOfEachKind();
         int[][] worn = {{4, 4}, {5, 4}, {5, 5}, {6, 4}, {6, 6}};
         int[] wear = new int[16];
         for (int[] pair : worn) {
@@ -127,7 +116,7 @@ public final class ActsTest {
     }
 
     private void wearAsOftenAsItStandsThere() {
-        PropStore x = oneOfEachKind();
+        PropStore x = Stores.oneOfEachKind();
         lay(x, 6, 8, 0);
         lay(x, 6, 8, 1);
         x.slot(0, 8);
@@ -142,7 +131,7 @@ public final class ActsTest {
     }
 
     private void wearInTheRowsOfARow() {
-        PropStore x = oneOfEachKind();
+        PropStore x = Stores.oneOfEachKind();
         lay(x, 4, 8, 0);
         lay(x, 6, 8, 1);
         lay(x, 6, 10, 1);
@@ -169,7 +158,7 @@ public final class ActsTest {
     }
 
     private void take() {
-        PropStore x = oneOfEachKind();
+        PropStore x = Stores.oneOfEachKind();
         lay(x, 6, 10, 1);
         x.slot(0, 10);
         check.due("TAKE at 2 of 2", playOne(x, TAKE, 0, 10, 2), INDEX);
@@ -186,7 +175,7 @@ public final class ActsTest {
     }
 
     private void takeLosesWhatTheHandHad() {
-        PropStore x = oneOfEachKind();
+        PropStore x = Stores.oneOfEachKind();
         lay(x, 4, 8, 0);
         give(x, 7);
         x.slot(0, 8);
@@ -204,7 +193,7 @@ public final class ActsTest {
     private void layOfEachKindInEachRowByEachView() {
         for (int row = 8; row <= 15; row++) {
             for (int view = 8; view <= 15; view++) {
-                PropStore x = oneOfEachKind();
+                PropStore x = Stores.oneOfEachKind();
                 for (int part = 0; part < 16; part++) {
                     layOne(x, part, row, view);
                 }
@@ -231,7 +220,7 @@ public final class ActsTest {
     }
 
     private void layOrder() {
-        PropStore x = oneOfEachKind();
+        PropStore x = Stores.oneOfEachKind();
         give(x, 7);
         check.due("CAST of the hand before EMPTY", playOne(x, LAY, 0, 8, 9), CAST);
         check.due("EMPTY before INDEX", playOne(x, LAY, 0, 11, 9), EMPTY);
@@ -252,7 +241,7 @@ public final class ActsTest {
     }
 
     private void layNothing() {
-        PropStore x = oneOfEachKind();
+        PropStore x = Stores.oneOfEachKind();
         lay(x, 6, 10, 0);
         x.slot(0, 10);
         check.due("LAY of NOTHING beyond", playOne(x, LAY, 0, 8, 2), INDEX);
@@ -263,7 +252,7 @@ public final class ActsTest {
     }
 
     private void swap() {
-        PropStore x = oneOfEachKind();
+        PropStore x = Stores.oneOfEachKind();
         x.slot(0, 6);
         x.slot(1, 0);
         check.due("SWAP a crown as carried", playOne(x, SWAP, 0, 16, 9), 0);
@@ -277,7 +266,7 @@ public final class ActsTest {
     }
 
     private void share() {
-        PropStore x = oneOfEachKind();
+        PropStore x = Stores.oneOfEachKind();
         x.slot(0, 12);
         x.slot(9, 3);
         check.due("SHARE", playOne(x, SHARE, 0, 11, 9), 0);
@@ -291,7 +280,7 @@ public final class ActsTest {
     }
 
     private void rowsAreSharedNotCopied() {
-        PropStore x = oneOfEachKind();
+        PropStore x = Stores.oneOfEachKind();
         lay(x, 8, 13, 0);
         lay(x, 4, 8, 1);
         check.due("the wardrobe sees the rail's costume", x.worth(13, 13), 40);

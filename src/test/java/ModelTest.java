@@ -108,9 +108,10 @@ public final class ModelTest {
     private void read(String at, PropStore x, ArrayModel model) {
         int prop = near(model.count(0));
         int i = near(6);
+        int slot = near(10);
         int view = near(17);
         switch (below(10)) {
-            case 0: check.due(at + "held(" + i + ")", x.held(i), model.held(i)); break;
+            case 0: check.due(at + "held(" + slot + ")", x.held(slot), model.held(slot)); break;
             case 1: check.due(at + "hand()", x.hand(), model.hand()); break;
             case 2: check.due(at + "miscue(" + i + ")", x.miscue(i), model.miscue(i)); break;
             case 3: check.due(at + "points()", x.points(), model.points()); break;

@@ -1,7 +1,5 @@
 /** Each promise of the document: ordinary inputs, the edges that it names, wrong inputs. */
-public final class PromisesTest {
-    private static final int NONE = -1, BAD = -2, FULL = -3, EMPTY = -4, CAST = -5, INDEX = -6;
-    private static final int SHOW = 0, WEAR = 1, TAKE = 2, LAY = 3, SWAP = 4, SHARE = 5;
+public final class PromisesTest implements Words {
     private static final int[] FAR = {Integer.MIN_VALUE, -1000, -2, 1000, Integer.MAX_VALUE};
 
     /** The views that each kind goes as, as the document lists them. */
@@ -37,14 +35,6 @@ public final class PromisesTest {
         test.promise15At();
         test.promise16Count();
         test.check.end();
-    }
-
-    private static PropStore oneOfEachKind() {
-        PropStore x = new PropStore();
-        for (int kind = 0; kind < 16; kind++) {
-            x.prop(kind, kind >= 4 && kind <= 7 ? kind * 10 : 2);
-        }
-        return x;
     }
 
     /** Lays a part in a row by the row's own kind; slots 8 and 9 and the cues are used for it. */
@@ -167,7 +157,7 @@ public final class PromisesTest {
     }
 
     private void promise3SetRefusals() {
-        PropStore x = oneOfEachKind();
+        PropStore x = Stores.oneOfEachKind();
         for (int kind = 0; kind < 4; kind++) {
             int numbers = kind == 3 ? 6 : 2;
             check.due("set(" + kind + ", -1)", x.set(kind, -1, 7), INDEX);
@@ -190,7 +180,7 @@ public final class PromisesTest {
     }
 
     private void promise4Slot() {
-        PropStore x = oneOfEachKind();
+        PropStore x = Stores.oneOfEachKind();
         for (int slot = 0; slot < 10; slot++) {
             check.due("slot(" + slot + ", " + (slot + 3) + ")", x.slot(slot, slot + 3), NONE);
         }
@@ -215,7 +205,7 @@ public final class PromisesTest {
     }
 
     private void promise5Held() {
-        PropStore x = oneOfEachKind();
+        PropStore x = Stores.oneOfEachKind();
         x.slot(0, 3);
         x.slot(9, 3);
         check.due("held(0)", x.held(0), 3);
@@ -229,7 +219,7 @@ public final class PromisesTest {
     }
 
     private void promise6Hand() {
-        PropStore x = oneOfEachKind();
+        PropStore x = Stores.oneOfEachKind();
         x.slot(2, 7);
         x.cue(SWAP, 2, 7, 0);
         x.cue(SWAP, 2, 7, 0);
@@ -302,7 +292,7 @@ public final class PromisesTest {
     }
 
     private void promise8Strike() {
-        PropStore x = oneOfEachKind();
+        PropStore x = Stores.oneOfEachKind();
         x.slot(0, 4);
         check.due("strike() of none", x.strike(), 0);
         x.cue(SHOW, 0, 4, 0);
@@ -321,7 +311,7 @@ public final class PromisesTest {
     }
 
     private void promise9Play() {
-        PropStore x = oneOfEachKind();
+        PropStore x = Stores.oneOfEachKind();
         x.slot(0, 4);
         for (int slot = 0; slot < 4; slot++) {
             x.cue(SHARE, slot, 4, slot + 1);
@@ -352,7 +342,7 @@ public final class PromisesTest {
     }
 
     private void promise10Miscue() {
-        PropStore x = oneOfEachKind();
+        PropStore x = Stores.oneOfEachKind();
         x.slot(0, 4);
         x.cue(SHOW, 0, 4, 0);
         x.cue(SHOW, 0, 5, 0);
@@ -382,7 +372,7 @@ public final class PromisesTest {
     }
 
     private void promise11Points() {
-        PropStore x = oneOfEachKind();
+        PropStore x = Stores.oneOfEachKind();
         x.set(2, 0, -5);
         x.set(2, 1, Integer.MIN_VALUE);
         x.slot(0, 2);
@@ -403,7 +393,7 @@ public final class PromisesTest {
     }
 
     private void promise12Is() {
-        PropStore x = oneOfEachKind();
+        PropStore x = Stores.oneOfEachKind();
         for (int kind = 0; kind < 16; kind++) {
             for (int view = 0; view <= 16; view++) {
                 int want = 0;
@@ -413,7 +403,7 @@ public final class PromisesTest {
                 check.due("is(" + kind + ", " + view + ")", x.is(kind, view), want);
             }
         }
-        PropStore y = oneOfEachKind();
+        PropStore y = Stores.oneOfEachKind();
         check.due("is(16, 0)", y.is(16, 0), BAD);
         check.due("is(-1, 0)", y.is(-1, 0), BAD);
         check.due("is(0, -1)", y.is(0, -1), BAD);
@@ -456,7 +446,7 @@ public final class PromisesTest {
     }
 
     private void promise13WorthOfPieces() {
-        PropStore x = oneOfEachKind();
+        PropStore x = Stores.oneOfEachKind();
         x.slot(0, 4);
         x.slot(1, 5);
         x.slot(2, 6);
@@ -479,7 +469,7 @@ public final class PromisesTest {
     }
 
     private void promise13WorthOfRows() {
-        PropStore x = oneOfEachKind();
+        PropStore x = Stores.oneOfEachKind();
         int[][] laid = {{4, 8, 0}, {6, 8, 1}, {5, 9, 1}, {6, 10, 0}, {6, 11, 0}, {7, 11, 1}, {7, 12, 1},
             {8, 13, 0}, {10, 13, 1}, {10, 14, 1}, {10, 15, 0}, {11, 15, 1}};
         for (int[] row : laid) {
@@ -511,7 +501,7 @@ public final class PromisesTest {
     }
 
     private void promise14Wear() {
-        PropStore x = oneOfEachKind();
+        PropStore x = Stores.oneOfEachKind();
         for (int prop = 0; prop < 16; prop++) {
             check.due("wear(" + prop + ")", x.wear(prop), prop >= 4 && prop <= 6 ? 0 : CAST);
         }
@@ -529,7 +519,7 @@ public final class PromisesTest {
     }
 
     private void promise15At() {
-        PropStore x = oneOfEachKind();
+        PropStore x = Stores.oneOfEachKind();
         for (int prop = 0; prop < 16; prop++) {
             boolean row = prop >= 8;
             check.due("at(" + prop + ", 0)", x.at(prop, 0), row ? NONE : CAST);
